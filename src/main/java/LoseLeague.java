@@ -8,6 +8,7 @@ public final class LoseLeague {
     private static final int PLAIN = 0, PROUD = 1, WISE = 2, CARELESS = 3;
     private static final int MOST_STRENGTH = 20;
     private static final int MOST_TALLY = 99;
+    private static final int ABOVE_ALL_OWED = MOST_TOWNS * MOST_TALLY + 1;
     private static final int MOST_WEEKS_RUN = 30;
     private static final int WEEK_LIMIT = 1000;
     private static final int MOST_WEEKS_AHEAD = 60;
@@ -238,7 +239,7 @@ public final class LoseLeague {
     }
 
     private void findBestOrder() {
-        best.start(Integer.MAX_VALUE);
+        best.start(ABOVE_ALL_OWED);
         int orders = factorial(league.fixtures);
         for (int i = 0; i < orders; i++) {
             setRow(i);
@@ -354,7 +355,7 @@ public final class LoseLeague {
         if (!league.hasTown(t) || !within(n, MOST_WEEKS_AHEAD) || !within(what, 1)) {
             return BAD;
         }
-        best.start(Integer.MAX_VALUE);
+        best.start(ABOVE_ALL_OWED);
         for (int kind = 0; kind < KINDS; kind++) {
             tryKind(t, kind);
             best.offer(kind, trial.owedBehind(n));
@@ -608,12 +609,13 @@ public final class LoseLeague {
         }
         int had = league.fixtures;
         for (int i = 0; i < n; i++) {
-            int fault = sheets[k].pairFault(lane, f, i);
+            // f is a cell once the first pair was whole, so that this does not wrap around
+            int at = f + 2 * i;
+            int fault = sheets[k].pairFault(lane, at);
             if (fault != 0) {
                 tornFault = fault;
                 return i;
             }
-            int at = f + 2 * i;
             if (league.addFixture(sheets[k].cells[at], sheets[k].cells[at + 1]) < 0) {
                 league.fixtures = had;
                 return -20 - i;
@@ -1181,16 +1183,15 @@ public final class LoseLeague {
             }
         }
 
-        /** What the machine would find on reading pair i from cell f on, as of a lane. */
-        int pairFault(int asLane, int f, int i) {
+        /** What the machine would find on reading two cells as of a lane. */
+        int pairFault(int asLane, int at) {
             if (!isThere()) {
                 return FAULT_NULL;
             }
             if (asLane != lane) {
                 return FAULT_CAST;
             }
-            // f is looked at alone first: far up, f + 2 * i would wrap around
-            if (!hasCell(f) || !hasCell(f + 2 * i) || !hasCell(f + 2 * i + 1)) {
+            if (!hasCell(at) || !hasCell(at + 1)) {
                 return FAULT_INDEX;
             }
             return 0;
