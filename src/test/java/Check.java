@@ -2,6 +2,7 @@
 final class Check {
     private static int asked = 0;
     private static int wrong = 0;
+    private static String about = "";
 
     private Check() {
     }
@@ -23,8 +24,17 @@ final class Check {
     static void wrong(String line) {
         wrong++;
         if (wrong <= 50) {
-            System.out.println(line);
+            System.out.println(about + line);
         }
+    }
+
+    /** What every line that is wrong from now on begins with. */
+    static void about(String words) {
+        about = words;
+    }
+
+    static int howManyWrong() {
+        return wrong;
     }
 
     static void finish(String name) {

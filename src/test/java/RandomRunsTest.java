@@ -82,7 +82,11 @@ public final class RandomRunsTest {
         return found;
     }
 
+    /** An object is good for no more calls than that: what would come behind them is left out. */
     private boolean call(String name, Object... args) {
+        if (told.size() >= CALLS) {
+            return true;
+        }
         ASKED.merge(name, 1, Integer::sum);
         String line = name + Arrays.toString(args);
         try {
@@ -155,8 +159,18 @@ public final class RandomRunsTest {
         return call("text") && call("fault");
     }
 
+    /** So far that WEEK can not go on for long. */
+    private boolean passMostWeeks() {
+        for (int i = 0; i < 33; i++) {
+            if (!call("weeks", 30)) {
+                return false;
+            }
+        }
+        return true;
+    }
+
     private boolean run() {
-        if (!tellText()) {
+        if (!tellText() || random.nextInt(12) == 0 && !passMostWeeks()) {
             return false;
         }
         while (told.size() < CALLS) {
@@ -172,6 +186,9 @@ public final class RandomRunsTest {
                 }
                 if (name.equals("order") && random.nextInt(3) == 0) {
                     args[0] = 0;
+                }
+                if (name.equals("alter") && random.nextInt(4) == 0) {
+                    args[2] = number(95, 99);
                 }
                 well = call(name, args);
             }
