@@ -7,10 +7,14 @@ import java.util.function.ToLongFunction;
 final class EdgesOfRefusal {
     private static final String SENTENCE = "what is refused changes nothing (but THE TAPE, as told)";
 
+    /** Who LOSES in WEEKS 0, 4, 8 and so on of what is full(). */
+    private static final int[] LOSERS = {2, 1, 0, 0, 2, 1};
+
     private EdgesOfRefusal() {
     }
 
     static void all() {
+        fullFits();
         tape();
         changes();
         seen();
@@ -18,6 +22,7 @@ final class EdgesOfRefusal {
         sheets();
         asked();
         texts();
+        unchanged();
     }
 
     /** Full of everything: ten FIXTURES, six SEEN, SHEETS 0 to 2, IMAGE 1, a tape of 160 bytes with a text on it. */
@@ -33,8 +38,8 @@ final class EdgesOfRefusal {
         for (int i = 0; i < 6; i++) {
             x.book(i % 4, 3 - i % 4);
         }
-        for (int week = 0; week <= 20; week += 4) {
-            x.see(week, x.loser(week) < 0 ? 9 : x.loser(week));
+        for (int i = 0; i < 6; i++) {
+            x.see(4 * i, LOSERS[i]);
         }
         for (int k = 0; k < 3; k++) {
             x.sheet(k, k, 4);
@@ -43,6 +48,7 @@ final class EdgesOfRefusal {
             x.lay(k, 3, 3);
         }
         x.read(0, 0, 3, 1);
+        Check.tell(x, "!");
         Check.feed(x, " ".repeat(138) + "wise3;proud5;game1 0; ");
         return x;
     }
@@ -90,7 +96,7 @@ final class EdgesOfRefusal {
 
     private static String brought(LoseLeague x) {
         StringBuilder s = new StringBuilder();
-        s.append("fault ").append(x.fault()).append(" torn ").append(x.torn()).append(" tape ").append(x.count(2));
+        s.append("tape ").append(x.count(2)).append(" fault ").append(x.fault()).append(" torn ").append(x.torn());
         league(x, s);
         seen(x, s);
         sheets(x, s);
@@ -109,6 +115,19 @@ final class EdgesOfRefusal {
             LoseLeague y = full();
             Check.due(call, f.applyAsLong(x), want);
             Check.same("behind it", brought(x), brought(y));
+        });
+    }
+
+    /** Else a SEEN that is changed would not come to light. */
+    private static void fullFits() {
+        Edge.of(Edge.TERMS, SENTENCE, "what is full() goes as all that is SEEN in it", () -> {
+            LoseLeague x = full();
+            for (int t = 0; t < 4; t++) {
+                Check.due("its KIND fits, town " + t, x.kinds(t) >> x.town(t, 0) & 1, 1);
+            }
+            Check.due("SEEN", x.count(0), 6);
+            Check.due("FIXTURES", x.rule(1), 10);
+            Check.due("bytes", x.count(2), 160);
         });
     }
 
@@ -247,7 +266,7 @@ final class EdgesOfRefusal {
         });
     }
 
-    /** The other object's tape is emptied by end(), and its FAULT is told by a text of the same kind of fault. */
+    /** The other object's tape is emptied by end(); fault() is asked by itself, as the two differ in it. */
     private static void texts() {
         String[] texts = {"!", "wise 3;dog", "wise 3;plain 21;", "wise1;wise1;wise1;wise1;wise1;wise1;", "wise 3;game 0 1;"};
         int[] faults = {1, 2, 3, 5, 6};
@@ -264,5 +283,62 @@ final class EdgesOfRefusal {
                 Check.same("behind it", brought(x).replaceFirst("fault \\d", ""), brought(y).replaceFirst("fault \\d", ""));
             });
         }
+    }
+
+    private static void stays(int promise, String sentence, String call, ToLongFunction<LoseLeague> f) {
+        Edge.of(promise, sentence, call + ": it is answered, nothing is changed", () -> {
+            LoseLeague x = full();
+            LoseLeague y = full();
+            long got = f.applyAsLong(x);
+            Check.due("refused", got == -1 || got == -2 ? 1 : 0, 0);
+            Check.same("behind it", brought(x), brought(y));
+        });
+    }
+
+    private static void unchanged() {
+        stays(5, "The FAULT of the latest text()", "fault()", x -> x.fault());
+        stays(6, "the FIXTURE of this WEEK", "rule(3)", x -> x.rule(3));
+        stays(7, "Of a TOWN", "town(3, 4)", x -> x.town(3, 4));
+        stays(8, "Of a FIXTURE", "fixture(9, 1)", x -> x.fixture(9, 1));
+        stays(9, "Who LOSES, if two TOWNS play now.", "game(0, 3)", x -> x.game(0, 3));
+        stays(15, "BY WEEKS, n of them", "runs(60, 2)", x -> x.runs(60, 2));
+        stays(16, "BY WEEKS, n of them", "ahead(0, 60, 0)", x -> x.ahead(0, 60, 0));
+        stays(17, "BY WEEKS: who LOSES in WEEK n", "loser(60)", x -> x.loser(60));
+        stays(18, "BY WEEKS: the first WEEK (0 to 60) in which a TOWN LOSES", "loses(3)", x -> x.loses(3));
+        stays(19, "The order of FIXTURES", "order(14)", EdgesOfRefusal::orderOfFive);
+        stays(20, "Who had better lend 1", "loan(60, 0)", x -> x.loan(60, 0));
+        stays(21, "Two FIXTURES that are to change places", "swap(60, 0)", x -> x.swap(60, 0));
+        stays(22, "The FIXTURE that had better be rained off", "skip(60, 0)", x -> x.skip(60, 0));
+        stays(23, "The greatest STRENGTH (0 to 20) of a TOWN", "most(0, 60)", x -> x.most(0, 60));
+        stays(24, "The KIND of a TOWN by which OWED is least", "kind(0, 60, 0)", x -> x.kind(0, 60, 0));
+        stays(25, "that a TOWN LOSES in any of them", "luck(3, 0, 8, 0)", x -> x.luck(3, 0, 8, 0));
+        stays(26, "the mean of OWED behind them", "mean(3, 8, 0)", x -> x.mean(3, 8, 0));
+        stays(29, "KINDS of a TOWN (bits)", "kinds(0)", x -> x.kinds(0));
+        stays(30, "STRENGTHS of a TOWN (bits 0 to 20)", "strengths(0)", x -> x.strengths(0));
+        stays(31, "The WEEK (0 to 20) in which to look", "ask(0, 0)", x -> x.ask(0, 0));
+        stays(32, "By itself (as it would be; nothing is changed)", "drift(3, 60, 0)", x -> x.drift(3, 60, 0));
+        stays(38, "The FAULT of the latest read()", "torn()", x -> x.torn());
+        stays(39, "STRENGTH of all TOWNS", "count(4)", x -> x.count(4));
+        stays(3, "THE TAPE keeps its first n bytes", "end(160) of 160", x -> x.end(160));
+        stays(11, "A TOWN lends n (0 to 20)", "lend(0, 1, 0)", x -> x.lend(0, 1, 0));
+        stays(13, "FIXTURES are the first n alone", "strike(10) of ten", x -> x.strike(10));
+        stays(14, "n WEEKS (0 to 30)", "weeks(0)", x -> x.weeks(0));
+        stays(28, "SEEN are the first n alone", "forget(6) of six", x -> x.forget(6));
+    }
+
+    /** What is full has ten FIXTURES: to be ordered it has to go on with the five of which WEEK 5 begins a YEAR. */
+    private static long orderOfFive(LoseLeague x) {
+        int[] firsts = new int[5];
+        int[] seconds = new int[5];
+        for (int i = 0; i < 5; i++) {
+            firsts[i] = x.fixture(5 + i, 0);
+            seconds[i] = x.fixture(5 + i, 1);
+        }
+        x.strike(5);
+        long answer = x.order(14);
+        for (int i = 0; i < 5; i++) {
+            x.book(firsts[i], seconds[i]);
+        }
+        return answer;
     }
 }

@@ -235,6 +235,7 @@ final class EdgesOfText {
             Check.due("fault()", x.fault(), 0);
             x.feed('!');
             Check.due("fault()", x.fault(), 0);
+            Check.due("text()", x.text(), -10);
         });
         Edge.of(5, "The FAULT of the latest text(); 0.", "the latest, not one ahead of it", () -> {
             LoseLeague x = new LoseLeague();
