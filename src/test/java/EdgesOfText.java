@@ -592,7 +592,7 @@ final class EdgesOfText {
             x.lay(k, 1, 1);
         }
         // what was asked of the weeks to come is not to be told by the next text
-        x.runs(1, 0);
+        x.runs(0, 0);
         return x;
     }
 
