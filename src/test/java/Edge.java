@@ -2,6 +2,7 @@ import java.io.IOException;
 import java.nio.file.Files;
 import java.nio.file.Path;
 import java.util.ArrayList;
+import java.util.BitSet;
 import java.util.List;
 import java.util.function.ToLongFunction;
 
@@ -17,15 +18,56 @@ final class Edge {
 
     private static final int[] TESTED = new int[PROMISES + 1];
     private static final List<String> BROKEN = new ArrayList<>();
+    private static final BitSet[] QUOTED = new BitSet[PROMISES + 1];
     private static String[] sections = {};
 
     private Edge() {
     }
 
-    /** Section 0 is all that stands ahead of the first promise. */
+    /** Section 0 is 'Terms'; each other one is what stands behind the face of its call. */
     static void readDocument(Path path) throws IOException {
         sections = Files.readString(path).split("\n## (?=Promise )");
         Check.due("promises of the document", sections.length - 1, PROMISES);
+        for (int i = 0; i < sections.length; i++) {
+            sections[i] = i == TERMS
+                ? between(sections[i], "## Terms\n", "\nAhead of the calls")
+                : between(sections[i], ")`: ", "\n## Not promised");
+        }
+        for (int i = 0; i <= PROMISES; i++) {
+            QUOTED[i] = new BitSet();
+        }
+    }
+
+    private static String between(String text, String start, String end) {
+        int from = text.indexOf(start);
+        int to = text.indexOf(end);
+        Check.due("'" + start.trim() + "' stands in the document", from < 0 ? 0 : 1, 1);
+        return text.substring(from < 0 ? 0 : from + start.length(), to < 0 ? text.length() : to);
+    }
+
+    private static void noteQuote(int promise, String sentence) {
+        int at = promise < sections.length ? sections[promise].indexOf(sentence) : -1;
+        if (at < 0) {
+            Check.wrong("the document does not say so");
+        }
+        while (at >= 0) {
+            QUOTED[promise].set(at, at + sentence.length());
+            at = sections[promise].indexOf(sentence, at + 1);
+        }
+    }
+
+    /** What no test quotes, but for what only parts the document's lines. */
+    private static void everyWordIsQuoted() {
+        for (int promise = 0; promise < sections.length; promise++) {
+            StringBuilder left = new StringBuilder();
+            for (int i = 0; i < sections[promise].length(); i++) {
+                left.append(QUOTED[promise].get(i) ? '\n' : sections[promise].charAt(i));
+            }
+            for (String words : left.toString().split("\n+")) {
+                String bare = words.replaceFirst("^(```text|======== [12])", "").replaceAll("[ .,:;`]", "");
+                Check.due("promise " + promise + ", quoted by no test: '" + words.trim() + "'", bare.length(), 0);
+            }
+        }
     }
 
     /** promise 0: the terms. */
@@ -33,9 +75,7 @@ final class Edge {
         String name = (promise == TERMS ? "terms" : "promise " + promise) + ", '" + sentence + "', " + which;
         int before = Check.howManyWrong();
         Check.about(name + ": ");
-        if (promise >= sections.length || !sections[promise].contains(sentence)) {
-            Check.wrong("the document does not say so");
-        }
+        noteQuote(promise, sentence);
         try {
             test.run();
         } catch (RuntimeException | StackOverflowError e) {
@@ -54,6 +94,7 @@ final class Edge {
             Check.due("a test for promise " + promise, TESTED[promise] > 0 ? 1 : 0, 1);
             all += TESTED[promise];
         }
+        everyWordIsQuoted();
         for (String name : BROKEN) {
             System.out.println("does not hold: " + name);
         }

@@ -129,6 +129,24 @@ final class EdgesOfBest {
         best("loan(" + n, choice, owed, x.loan(n, 0), x.loan(n, 1));
     }
 
+    /** Lends, looks and goes back, for each two TOWNS. */
+    private static void loansByLending(String text, int n) {
+        LoseLeague x = Check.told(text);
+        x.keep(0);
+        int least = x.runs(n, 2);
+        int choice = -4;
+        for (int a = 0; a < x.rule(0); a++) {
+            for (int b = 0; b < x.rule(0); b++) {
+                if (x.lend(a, b, 1) >= 0 && x.runs(n, 2) < least) {
+                    least = x.runs(n, 2);
+                    choice = 10 * a + b;
+                }
+                x.back(0);
+            }
+        }
+        loans(x, n, choice, choice < 0 ? -4 : least);
+    }
+
     private static void loan() {
         Edge.of(20, "so that OWED is least behind n WEEKS (0 to 60)", "n at both ends", () -> {
             LoseLeague x = Check.told("plain 5;plain 5;game 0 1;");
@@ -161,6 +179,17 @@ final class EdgesOfBest {
             loans(allOwing("plain 5;plain 5;game 0 1;", 99), 1, -4, -4);
             loans(allOwing("plain 5;plain 5;game 0 1;", 98), 1, 1, 197);
             loans(allOwing("plain 5;plain 5;game 0 1;", 98), 2, -4, -4);
+        });
+        Edge.of(20, "Who had better lend 1 (as by lend()) to whom now so that OWED is least behind n WEEKS", "as lend() and runs() tell it", () -> {
+            loansByLending("plain 5;plain 5;plain 5;game 0 1;game 1 2;", 4);
+            loansByLending("wise 12;proud 3;plain 6;careless 9;game 0 1;game 2 3;game 1 2;", 9);
+            loansByLending(FIVE + "game 0 1;game 2 3;game 4 0;game 1 2;", 8);
+            loansByLending("proud 20;plain 20;wise 20;game 0 1;game 1 2;", 6);
+        });
+        Edge.of(20, "10 times who lends and to whom, of several the least (what 0)", "who lends comes first", () -> {
+            // whatever 1 or 4 lends or is lent ends the DRAW: 10 is the least, 0 having nothing to lend
+            loans(Check.told("plain 0;plain 5;plain 0;plain 9;plain 5;game 4 1;"), 1, 10, 4);
+            loans(Check.told("plain 0;proud 0;plain 0;plain 3;game 3 1;"), 1, 30, 3);
         });
         Edge.of(20, "Who had better lend 1 (as by lend())", "one that has 0 can not, one that has 1 can", () -> {
             loans(Check.told("plain 0;plain 0;game 0 1;"), 1, -4, -4);

@@ -300,7 +300,7 @@ final class EdgesOfChanges {
                 }
             }
         });
-        Edge.of(Edge.TERMS, "the one that PLAYS less LOSES", "by one, the first, the second; nobody else has to do with it", () -> {
+        Edge.of(Edge.TERMS, "A GAME of two TOWNS: the one that PLAYS less LOSES", "by one, the first, the second; nobody else has to do with it", () -> {
             LoseLeague x = Check.told("plain 4;plain 5;plain 9;game 0 1;game 1 2;");
             x.weeks(1);
             Check.due("the first", x.rule(4), 1);
@@ -323,7 +323,7 @@ final class EdgesOfChanges {
             Check.due("no YEAR is over", x.rule(5), 4);
             Check.due("WEEK goes on", x.rule(2), 30);
         });
-        Edge.of(Edge.TERMS, "the GAME of the FIXTURE whose number WEEK leaves by FIXTURES (none, if there are none)", "the first behind the last", () -> {
+        Edge.of(Edge.TERMS, "A WEEK: the GAME of the FIXTURE whose number WEEK leaves by FIXTURES", "the first behind the last", () -> {
             LoseLeague x = Check.told("plain 1;plain 9;plain 1;plain 9;plain 5;game 0 1;game 2 3;");
             x.weeks(1);
             Check.due("WEEK 0: 0 LOSES", x.town(0, 1) * 10 + x.town(2, 1), 21);

@@ -245,6 +245,27 @@ final class EdgesOfSeen {
         return x;
     }
 
+    /** Looks in each WEEK, and is told each answer that there may be. */
+    private static void asksByLooking(String text, int t) {
+        LoseLeague x = Check.told(text);
+        int fewest = Integer.bitCount(x.strengths(t));
+        int best = -4;
+        for (int week = 0; week <= 20; week++) {
+            int worst = 0;
+            for (int loser : new int[] {0, 1, 2, 9}) {
+                if (x.see(week, loser) == 1) {
+                    worst = Math.max(worst, Integer.bitCount(x.strengths(t)));
+                    x.forget(0);
+                }
+            }
+            if (worst < fewest) {
+                fewest = worst;
+                best = week;
+            }
+        }
+        asks(x, t, best, best < 0 ? -4 : fewest);
+    }
+
     private static void ask() {
         Edge.of(31, "The WEEK (0 to 20) in which to look who LOSES, or whether nobody does", "0, 20, 21", () -> {
             LoseLeague x = Check.told(SHORT);
@@ -261,6 +282,13 @@ final class EdgesOfSeen {
             x.weeks(30);
             x.alter(0, 1, 5);
             asks(x, 1, 5, 9);
+        });
+        Edge.of(31, "so that of strengths() of a TOWN fewest are left at the worst, fewer than now, the first", "as see() and strengths() tell it", () -> {
+            String[] texts = {SHORT, "wise 9;proud 4;plain 7;game 0 1;game 2 0;game 1 2;", "careless 15;wise 12;game 0 1;game 1 0;"};
+            for (String text : texts) {
+                asksByLooking(text, 1);
+                asksByLooking(text, 0);
+            }
         });
         Edge.of(31, "fewest are left at the worst", "the worst, not the best", () -> {
             // 0 to 4 are left; WEEK 1 leaves 0, 1, 2 or 3 or 4; WEEK 2 leaves 0, 4 or 1, 3 or 2

@@ -370,6 +370,19 @@ final class EdgesOfSheets {
             read(x, 0, 0, 0, 0, 1);
             read(x, 0, 20, 3, INDEX, 4);
         });
+        Edge.of(37, "n (0 to 20) times two TOWNS are read of a SHEET taken as of a lane", "as of its own lane alone", () -> {
+            for (int lane = 0; lane < 3; lane++) {
+                LoseLeague x = Check.told("plain 1;plain 2;plain 3;");
+                x.sheet(2, lane, 4);
+                x.lay(2, 0, 2);
+                x.lay(2, 3, 1);
+                for (int as = 0; as < 3; as++) {
+                    Check.due("lane " + lane + " as of " + as, x.read(2, as, 0, 2), as == lane ? 2 : 0);
+                }
+                Check.due("FIXTURES", x.rule(1), 2);
+                Check.due("2 and 0, 0 and 1", pair(x, 0) * 100 + pair(x, 1), 2001);
+            }
+        });
         Edge.of(37, "n (0 to 20) times two TOWNS are read", "twenty that are whole: the 11th is refused", () -> {
             LoseLeague x = Check.told("plain 1;plain 2;");
             x.sheet(0, 2, 40);
@@ -436,7 +449,7 @@ final class EdgesOfSheets {
             read(x, 0, 2, 1, INDEX, 2);
             read(x, 2, 1, 0, INDEX, 2);
         });
-        Edge.of(37, "by n 0 nothing is asked of the machine: 0, torn() 0", "of nothing, of another lane, from no CELL on", () -> {
+        Edge.of(37, "(its FAULT is asked by torn(); by n 0 nothing is asked of the machine: 0, torn() 0)", "of nothing, of another lane, from no CELL on", () -> {
             LoseLeague x = withSheet(0, 1);
             Check.due("read(1, 0, 0, 1)", x.read(1, 0, 0, 1), 0);
             Check.due("torn()", x.torn(), NULL);
@@ -591,7 +604,7 @@ final class EdgesOfSheets {
             Edge.taken("count(#)", x::count, 0, 1, 2, 3, 4, 5);
             Edge.bad("count(#)", x::count, -1, 6, Edge.MIN, Edge.MAX);
         });
-        Edge.of(39, "0 SEEN, 1 IMAGES, 2 bytes on THE TAPE", "none, all", () -> {
+        Edge.of(39, "How many: 0 SEEN, 1 IMAGES, 2 bytes on THE TAPE", "none, all", () -> {
             LoseLeague x = Check.told(FIVE);
             for (int what = 0; what <= 2; what++) {
                 Check.due("none: count(" + what + ")", x.count(what), 0);

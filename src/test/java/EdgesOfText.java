@@ -80,7 +80,7 @@ final class EdgesOfText {
                     Check.due(kind + " OWES", x.town(0, 3), 0);
                 }
             });
-        Edge.of(1, "A new object", "what another one was told is not here", () -> {
+        Edge.of(1, "No TOWNS, no FIXTURES; SHEETS have nothing.", "what another one was told is not here", () -> {
             LoseLeague other = Check.told(FIVE + TEN);
             other.weeks(9);
             other.see(0, 9);

@@ -5,6 +5,7 @@ import java.nio.file.Path;
 public final class EdgesTest {
     public static void main(String[] args) throws IOException {
         Edge.readDocument(Path.of("../shared/DOC.md"));
+        EdgesOfTerms.all();
         EdgesOfText.all();
         EdgesOfState.all();
         EdgesOfChanges.all();

@@ -1,22 +1,68 @@
+import java.io.IOException;
 import java.lang.reflect.Constructor;
 import java.lang.reflect.Field;
 import java.lang.reflect.Member;
 import java.lang.reflect.Method;
 import java.lang.reflect.Modifier;
+import java.nio.file.Files;
+import java.nio.file.Path;
+import java.util.ArrayList;
+import java.util.List;
 import java.util.TreeSet;
+import java.util.regex.Matcher;
+import java.util.regex.Pattern;
 
 /** The document's face, no more and no less; promise 1: a new object. */
 public final class FaceTest {
-    private static final String[] METHODS = {
-        "int feed(int)", "int end(int)", "int text()", "int fault()", "int rule(int)", "int town(int,int)",
-        "int fixture(int,int)", "int game(int,int)", "int alter(int,int,int)", "int lend(int,int,int)",
-        "int book(int,int)", "int strike(int)", "int weeks(int)", "int runs(int,int)", "int ahead(int,int,int)",
-        "int loser(int)", "int loses(int)", "int order(int)", "int loan(int,int)", "int swap(int,int)",
-        "int skip(int,int)", "int most(int,int)", "int kind(int,int,int)", "long luck(int,int,int,int)",
-        "long mean(int,int,int)", "int see(int,int)", "int forget(int)", "int kinds(int)", "int strengths(int)",
-        "int ask(int,int)", "int drift(int,int,int)", "int keep(int)", "int back(int)", "int sheet(int,int,int)",
-        "int lay(int,int,int)", "int read(int,int,int,int)", "int torn()", "int count(int)"
-    };
+    private static String document;
+    private static String source;
+    /** As they stand in the document: 'int town(int t, int what)'. */
+    private static final List<String> CALLS = new ArrayList<>();
+
+    private static List<String> allOf(String pattern, String text) {
+        List<String> found = new ArrayList<>();
+        Matcher m = Pattern.compile(pattern).matcher(text);
+        while (m.find()) {
+            found.add(m.group(1));
+        }
+        return found;
+    }
+
+    private static void readFace(String file) throws IOException {
+        document = Files.readString(Path.of("../shared/DOC.md"));
+        source = Files.readString(Path.of(file));
+        CALLS.addAll(allOf("\n    public ((?:int|long) \\w+\\([^)]*\\));", document));
+        Check.due("calls of the document's face", CALLS.size(), 38);
+    }
+
+    private static String nameOf(String call) {
+        return call.substring(call.indexOf(' ') + 1, call.indexOf('('));
+    }
+
+    /** Each promise but the first tells its call as the face does, in the order of the face. */
+    private static void promises() {
+        List<String> promised = allOf("\n`([^`]*)`: ", document);
+        Check.due("promises", promised.size(), 39);
+        Check.same("promise 1", promised.get(0), "LoseLeague()");
+        Check.same("promises 2 to 39", promised.subList(1, promised.size()).toString(), CALLS.toString());
+        Check.same("headings", allOf("\n## Promise \\d+: (\\w+)\n", document).toString(),
+            CALLS.stream().map(FaceTest::nameOf).toList().toString());
+    }
+
+    /** What the interface says ahead of its calls stands ahead of them in the file, and the calls in their order. */
+    private static void interfaceSays() {
+        StringBuilder want = new StringBuilder();
+        Matcher m = Pattern.compile("\nAhead of the calls (.*) the interface says: (---- [^\n]*)\\.\n").matcher(document);
+        while (m.find()) {
+            want.append(m.group(2)).append(": ").append(m.group(1).replaceAll("[`,]", "")).append('\n');
+        }
+        StringBuilder got = new StringBuilder();
+        Matcher line = Pattern.compile("\n    (?:// (---- [^\n]*)|public (?:int|long) (\\w+)\\()").matcher(source);
+        while (line.find()) {
+            got.append(line.group(1) != null ? (got.length() > 0 ? "\n" : "") + line.group(1) + ":" : " " + line.group(2));
+        }
+        Check.same("what stands ahead of the calls", got.append('\n').toString(), want.toString());
+    }
 
     private static String signature(Method m) {
         StringBuilder s = new StringBuilder(m.getReturnType().getName()).append(' ').append(m.getName()).append('(');
@@ -33,9 +79,9 @@ public final class FaceTest {
     private static void methods() {
         TreeSet<String> want = new TreeSet<>();
         TreeSet<String> names = new TreeSet<>();
-        for (String m : METHODS) {
-            want.add(m);
-            names.add(m.substring(m.indexOf(' ') + 1, m.indexOf('(')));
+        for (String call : CALLS) {
+            want.add(call.replaceAll("(int|long) \\w+(?=[,)])", "$1").replace(", ", ","));
+            names.add(nameOf(call));
         }
         TreeSet<String> got = new TreeSet<>();
         for (Method m : LoseLeague.class.getDeclaredMethods()) {
@@ -101,7 +147,10 @@ public final class FaceTest {
         Check.same("objects have nothing in common", Check.state(x), Check.state(new LoseLeague()));
     }
 
-    public static void main(String[] args) {
+    public static void main(String[] args) throws IOException {
+        readFace(args.length > 0 ? args[0] : "src/main/java/LoseLeague.java");
+        promises();
+        interfaceSays();
         methods();
         members();
         constants();
