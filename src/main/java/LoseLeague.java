@@ -248,7 +248,8 @@ public final class LoseLeague {
                 trial.firsts[place] = league.firsts[row[place]];
                 trial.seconds[place] = league.seconds[row[place]];
             }
-            best.offer(i, trial.owedBehind(league.fixtures));
+            trial.runWeeks(league.fixtures);
+            best.offer(i, trial.owed());
         }
     }
 
@@ -296,7 +297,8 @@ public final class LoseLeague {
             for (int b = 0; b < league.towns; b++) {
                 trial.become(league);
                 if (a != b && trial.moveStrength(a, b, 1) >= 0) {
-                    best.offer(10 * a + b, trial.owedBehind(n));
+                    trial.runWeeks(n);
+                    best.offer(10 * a + b, trial.owed());
                 }
             }
         }
@@ -312,7 +314,8 @@ public final class LoseLeague {
             for (int j = i + 1; j < league.fixtures; j++) {
                 trial.become(league);
                 trial.swapFixtures(i, j);
-                best.offer(10 * i + j, trial.owedBehind(n));
+                trial.runWeeks(n);
+                best.offer(10 * i + j, trial.owed());
             }
         }
         return best.answer(what);
@@ -335,7 +338,8 @@ public final class LoseLeague {
 
     private int owedAsItIs(int n) {
         trial.become(league);
-        return trial.owedBehind(n);
+        trial.runWeeks(n);
+        return trial.owed();
     }
 
     public int most(int t, int n) {
@@ -358,7 +362,8 @@ public final class LoseLeague {
         best.start(ABOVE_ALL_OWED);
         for (int kind = 0; kind < KINDS; kind++) {
             tryKind(t, kind);
-            best.offer(kind, trial.owedBehind(n));
+            trial.runWeeks(n);
+            best.offer(kind, trial.owed());
         }
         return best.answer(what);
     }
@@ -759,16 +764,14 @@ public final class LoseLeague {
         }
 
         int playsNow(int t) {
+            int plain = strengths[t];
+            int wise = losses[t] == 0 ? plain / 2 : plain;
             switch (kinds[t]) {
-                case PROUD: return strengths[t] + 3;
-                case WISE: return playsWise(t);
-                case CARELESS: return Math.max(0, playsWise(t) - 2);
-                default: return strengths[t];
+                case PROUD: return plain + 3;
+                case WISE: return wise;
+                case CARELESS: return Math.max(0, wise - 2);
+                default: return plain;
             }
-        }
-
-        private int playsWise(int t) {
-            return losses[t] == 0 ? strengths[t] / 2 : strengths[t];
         }
 
         private int trainsNow(int t) {
@@ -840,11 +843,6 @@ public final class LoseLeague {
                 }
             }
             return lost;
-        }
-
-        int owedBehind(int n) {
-            runWeeks(n);
-            return owed();
         }
 
         int firstLoss(int t, int n) {
@@ -930,19 +928,16 @@ public final class LoseLeague {
                     }
                     return lines;
                 }
-                if (!readLine(draft)) {
+                int word = wordRead();
+                if (word == NO_WORD) {
+                    refuse(OUT_OF_PLACE);
+                    return lines;
+                }
+                if (word == GAME ? !readGame(draft) : !readTown(draft, word)) {
                     return lines;
                 }
             }
             return MOST_LINES;
-        }
-
-        private boolean readLine(League draft) {
-            int word = token == NAME ? wordRead() : NO_WORD;
-            if (word == NO_WORD) {
-                return refuse(OUT_OF_PLACE);
-            }
-            return word == GAME ? readGame(draft) : readTown(draft, word);
         }
 
         private boolean readTown(League draft, int kind) {
@@ -1049,6 +1044,7 @@ public final class LoseLeague {
             return c >= '0' && c <= '9';
         }
 
+        /** Which word may begin a line here; a sign or a number spells none. */
         private int wordRead() {
             if (spells("plain")) {
                 return PLAIN;

@@ -1,6 +1,12 @@
 import java.io.IOException;
+import java.lang.reflect.Field;
+import java.lang.reflect.Modifier;
 import java.nio.file.Files;
 import java.nio.file.Path;
+import java.util.ArrayList;
+import java.util.List;
+import java.util.Map;
+import java.util.TreeMap;
 import java.util.regex.Matcher;
 import java.util.regex.Pattern;
 
@@ -50,6 +56,58 @@ public final class LanguageTest {
         }
     }
 
+    /** The text of each method by its name; methods of one name in several classes are taken as one. */
+    private static Map<String, String> methods(String source) {
+        Map<String, String> bodies = new TreeMap<>();
+        Matcher m = Pattern.compile("(?ms)^( +)(?:[a-z]+ )*[A-Za-z]+(?:\\[\\])? (\\w+)\\(([^)]*)\\) \\{\n(.*?)^\\1\\}").matcher(source);
+        while (m.find()) {
+            bodies.merge(m.group(2), m.group(4), String::concat);
+            Check.due("parameters of " + m.group(2), m.group(3).split(",").length > 7 ? 1 : 0, 0);
+        }
+        return bodies;
+    }
+
+    /** The longest row of calls that begins with a method, those of the library counted too; none may come twice. */
+    private static List<String> longestRow(String name, Map<String, String> bodies, List<String> open) {
+        List<String> longest = new ArrayList<>();
+        if (open.contains(name)) {
+            Check.wrong(name + " calls itself: " + open);
+            return longest;
+        }
+        List<String> within = new ArrayList<>(open);
+        within.add(name);
+        Matcher call = Pattern.compile("(?<!new )\\b(\\w+)\\(").matcher(bodies.getOrDefault(name, ""));
+        while (call.find()) {
+            if (!call.group(1).matches("if|for|while|switch|return")) {
+                List<String> row = longestRow(call.group(1), bodies, within);
+                longest = row.size() > longest.size() ? row : longest;
+            }
+        }
+        longest = new ArrayList<>(longest);
+        longest.add(0, name);
+        return longest;
+    }
+
+    private static void depths(String source) {
+        Map<String, String> bodies = methods(source);
+        Check.due("methods found", bodies.size() > 90 ? 1 : 0, 1);
+        for (String name : bodies.keySet()) {
+            List<String> row = longestRow(name, bodies, new ArrayList<>());
+            Check.due("calls deeper than eight: " + row, row.size() > 8 ? 1 : 0, 0);
+        }
+    }
+
+    private static void fields() {
+        for (Class<?> c : LoseLeague.class.getNestHost().getNestMembers()) {
+            int fields = 0;
+            for (Field f : c.getDeclaredFields()) {
+                fields += Modifier.isStatic(f.getModifiers()) ? 0 : 1;
+                Check.due(f + " is static but not final", Modifier.isStatic(f.getModifiers()) && !Modifier.isFinal(f.getModifiers()) ? 1 : 0, 0);
+            }
+            Check.due("fields of " + c.getName() + " above twenty", Math.max(0, fields - 20), 0);
+        }
+    }
+
     public static void main(String[] args) throws IOException {
         String whole = Files.readString(Path.of(args.length > 0 ? args[0] : "src/main/java/LoseLeague.java"));
         String source = withoutComments(whole);
@@ -62,6 +120,8 @@ public final class LanguageTest {
         Check.due("public but the face", found("\\bpublic\\b", source), 1 + 1 + 1 + 38);
         madeOnce(source);
         lengths(whole);
+        depths(source);
+        fields();
         Check.finish("LanguageTest");
     }
 }
